@@ -18,6 +18,7 @@ public final class AnalysisTest {
         withoutAnalysis();
         wrongIndices();
         analyzedAgain();
+        sixteenBlocks();
         Check.end("AnalysisTest");
     }
 
@@ -138,8 +139,6 @@ public final class AnalysisTest {
         RangePropagator p = loop();
         int far = p.addBlock();
         p.input(0, 3, 50, 50);
-        p.branch(3, 0, 0, 3, 3, far);
-        p.clear(3);
         p.branch(3, 3, 0, 0, far, 0);
         p.jump(far, far);
         p.setEffort(0, 0);
@@ -148,9 +147,8 @@ public final class AnalysisTest {
         Check.equal("18 deadEdges", p.deadEdges(), 0);
         p.setEffort(0, 5);
         p.analyze();
-        boolean reachable = p.isReachable(far);
         // far leads to itself, so it keeps itself alive.
-        Check.yes("14 a loop keeps itself", reachable);
+        Check.yes("14 a loop keeps itself", p.isReachable(far));
         p.clear(far);
         p.analyze();
         Check.no("14 narrowed to none", p.isReachable(far));
@@ -236,5 +234,34 @@ public final class AnalysisTest {
         p.analyze();
         Check.no("12 nothing is left of the earlier one", p.isReachable(1));
         Check.equal("12 nothing is left of the earlier one", p.visits(1), 0);
+        Check.equal("19 nothing is left of the earlier one", p.constants(1), 0);
+        Check.yes("17 nothing is left of the earlier one", p.isDead(1, 1));
+        Check.refused("15 nothing is left of the earlier one", p, NO_ELEMENT, () -> p.entry(1, 0, false));
+        Check.refused("16 nothing is left of the earlier one", p, NO_ELEMENT, () -> p.exit(1, 0, false));
+    }
+
+    /** A chain of 16 blocks with 8 statements each; each has a dead edge back. */
+    private static void sixteenBlocks() {
+        RangePropagator p = new RangePropagator();
+        p.setInitial(1, 1, 1);
+        for (int block = 1; block < 16; block++) {
+            p.addBlock();
+        }
+        for (int block = 0; block < 16; block++) {
+            for (int i = 0; i < 8; i++) {
+                p.compute(block, 1, 0, 0, 1);
+            }
+            if (block < 15) {
+                p.branch(block, 0, 3, 1, block + 1, block);
+            }
+        }
+        Check.equal("12 sixteen blocks", p.analyze(), 2);
+        Check.equal("15 the last entry", p.entry(15, 0, true), 120);
+        Check.equal("16 the last exit", p.exit(15, 0, false), 128);
+        Check.equal("18 deadEdges", p.deadEdges(), 15);
+        Check.equal("19 constants", p.constants(15), 6);
+        Check.equal("20 visits", p.visits(15), 1);
+        Check.equal("21 steps", p.run(5, 300), 16);
+        Check.equal("24 result", p.result(0), 128);
     }
 }

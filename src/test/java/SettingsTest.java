@@ -9,6 +9,8 @@ public final class SettingsTest {
         setEffort();
         addThreshold();
         thresholdsAreUsed();
+        lowsMeetThresholds();
+        eightThresholds();
         delayIsUsed();
         narrowingsAreUsed();
         Check.end("SettingsTest");
@@ -97,6 +99,50 @@ public final class SettingsTest {
         Check.equal("11 high is 5", q.entry(1, 0, true), 5);
         Check.equal("11 high in the loop is 4", q.entry(2, 0, true), 4);
         Check.equal("11 low behind the loop", q.entry(3, 0, false), 5);
+    }
+
+    /** Block 0 leads to itself; its INPUT makes the range of variable 0 that is joined. */
+    private static RangePropagator joinedWith(int low, int high, int... thresholds) {
+        RangePropagator p = new RangePropagator();
+        p.setEffort(0, 0);
+        p.setInitial(0, -2, 2);
+        p.input(0, 0, low, high);
+        p.jump(0, 0);
+        for (int threshold : thresholds) {
+            p.addThreshold(threshold);
+        }
+        p.analyze();
+        return p;
+    }
+
+    private static void lowsMeetThresholds() {
+        Check.equal("11 low is a threshold", joinedWith(-9, 0, -9, -10, -1).entry(0, 0, false), -9);
+        Check.equal("11 low is above one", joinedWith(-9, 0, -10, -20, -8).entry(0, 0, false), -10);
+        Check.equal("11 low is above one, another order", joinedWith(-9, 0, -8, -20, -10).entry(0, 0, false), -10);
+        Check.equal("11 low is below all", joinedWith(-9, 0, -8, 8).entry(0, 0, false), -1000000000);
+        Check.equal("11 low stays", joinedWith(-2, 9, -8, 8).entry(0, 0, false), -2);
+        Check.equal("11 high is a threshold", joinedWith(0, 9, 9, 10, 1).entry(0, 0, true), 9);
+        Check.equal("11 high is below one", joinedWith(0, 9, 10, 20, 8).entry(0, 0, true), 10);
+        Check.equal("11 high is below one, another order", joinedWith(0, 9, 8, 20, 10).entry(0, 0, true), 10);
+        Check.equal("11 high is above all", joinedWith(0, 9, -8, 8).entry(0, 0, true), 1000000000);
+        Check.equal("11 high stays", joinedWith(-9, 2, -8, 8).entry(0, 0, true), 2);
+    }
+
+    private static void eightThresholds() {
+        RangePropagator p = joinedWith(-7, 7, 1, 2, 3, 4, 5, 6, -6, 8);
+        Check.equal("11 the last one counts", p.entry(0, 0, true), 8);
+        Check.equal("11 none of eight", p.entry(0, 0, false), -1000000000);
+        // Zero was not added, so it is no threshold.
+        RangePropagator q = new RangePropagator();
+        q.setEffort(0, 0);
+        q.setInitial(0, -9, -8);
+        q.setInitial(1, 8, 9);
+        q.input(0, 0, -5, -5);
+        q.input(0, 1, 5, 5);
+        q.jump(0, 0);
+        q.analyze();
+        Check.equal("11 zero is no threshold: high", q.entry(0, 0, true), 1000000000);
+        Check.equal("11 zero is no threshold: low", q.entry(0, 1, false), -1000000000);
     }
 
     private static RangePropagator countToFive() {
