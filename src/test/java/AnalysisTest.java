@@ -1,267 +1,313 @@
-import java.util.NoSuchElementException;
-
-/** Promises 12 to 20: the analysis and what is told of it. */
+/** Promises 12 to 20, sentence by sentence: the analysis and what is told of it. */
 public final class AnalysisTest {
-    private static final Class<IndexOutOfBoundsException> NO_INDEX = IndexOutOfBoundsException.class;
-    private static final Class<IllegalStateException> NO_STATE = IllegalStateException.class;
-    private static final Class<NoSuchElementException> NO_ELEMENT = NoSuchElementException.class;
-    private static final int MIN = Integer.MIN_VALUE;
-    private static final int MAX = Integer.MAX_VALUE;
+    private static final int[] NO_BLOCKS_OF_FOUR = {-1, 4, 5, 15, 16, Check.MIN, Check.MAX};
 
     public static void main(String[] args) {
-        countingLoop();
-        backwardEdges();
-        joins();
-        initialRangesJoinInALoop();
-        narrowedToNone();
-        unreachableBlocks();
+        analyzeMakesTheAnalysis();
+        analyzeReturnsTheRounds();
+        isAnalyzedReturns();
+        isReachableReturns();
+        entryReturns();
+        exitReturns();
+        isDeadReturns();
+        deadEdgesReturns();
+        constantsReturns();
+        visitsReturns();
         withoutAnalysis();
-        wrongIndices();
-        analyzedAgain();
-        sixteenBlocks();
+        wrongBlocks();
+        wrongVariables();
+        wrongEdges();
+        entryAndExitOfNone();
         Check.end("AnalysisTest");
     }
 
-    /** for (x = 0; x < 10; x++): block 1 is the head, 2 the body, 3 behind it. */
-    private static RangePropagator loop() {
-        RangePropagator p = new RangePropagator();
-        p.addBlock();
-        p.addBlock();
-        p.addBlock();
-        p.input(0, 1, 10, 10);
-        p.input(0, 2, 1, 1);
-        p.jump(0, 1);
-        p.branch(1, 0, 0, 1, 2, 3);
-        p.compute(2, 1, 0, 0, 2);
-        p.jump(2, 1);
+    /** The counting loop to 10, analyzed: the head is 0 to 1000000000, the body 0 to 9. */
+    private static RangePropagator analyzed() {
+        RangePropagator p = Programs.counting(10);
+        p.analyze();
         return p;
     }
 
-    private static void countingLoop() {
-        RangePropagator p = loop();
-        Check.equal("12 rounds", p.analyze(), 4);
-        Check.yes("13 isAnalyzed", p.isAnalyzed());
-        // Head: 0, 0..1, 0..1000000000. Body: 0, 0..1, 0..9 widened to 1000000000, narrowed to 9.
-        Check.equal("20 visits of block 0", p.visits(0), 1);
-        Check.equal("20 visits of the head", p.visits(1), 3);
-        Check.equal("20 visits of the body", p.visits(2), 3);
-        Check.equal("20 visits behind", p.visits(3), 1);
-        Check.equal("15 head high", p.entry(1, 0, true), 1000000000);
-        Check.equal("15 body low", p.entry(2, 0, false), 0);
-        Check.equal("15 body high", p.entry(2, 0, true), 9);
-        Check.equal("16 body low", p.exit(2, 0, false), 1);
-        Check.equal("16 body high", p.exit(2, 0, true), 10);
-        Check.equal("15 behind low", p.entry(3, 0, false), 10);
-        Check.equal("19 constants of the head", p.constants(1), 5);
-        Check.equal("19 constants behind", p.constants(3), 5);
-        p.setEffort(2, 2);
-        Check.equal("12 narrowings are no rounds", p.analyze(), 4);
-        Check.equal("15 head high", p.entry(1, 0, true), 10);
-        Check.equal("15 behind high", p.entry(3, 0, true), 10);
-        Check.equal("19 constants behind", p.constants(3), 6);
-        p.setEffort(10, 0);
-        // The head changes from 0..0 to 0..9 without widening and then to the greatest.
-        Check.equal("12 rounds with a delay", p.analyze(), 12);
-        Check.equal("20 visits with a delay", p.visits(1), 11);
-        Check.equal("15 head high with a delay", p.entry(1, 0, true), 1000000000);
-    }
-
-    /** An edge to a block of a lower number is seen in the next round only. */
-    private static void backwardEdges() {
-        RangePropagator p = new RangePropagator();
-        for (int i = 0; i < 4; i++) {
-            p.addBlock();
-        }
-        p.jump(0, 4);
-        p.jump(4, 3);
-        p.jump(3, 2);
-        p.jump(2, 1);
-        Check.equal("12 against the order", p.analyze(), 5);
-        p.clear(0);
-        p.clear(4);
-        p.clear(3);
-        p.clear(2);
-        p.jump(0, 1);
-        p.jump(1, 2);
-        p.jump(2, 3);
-        p.jump(3, 4);
-        Check.equal("12 in the order", p.analyze(), 2);
-    }
-
-    private static void joins() {
-        RangePropagator p = new RangePropagator();
-        p.addBlock();
-        p.addBlock();
-        p.addBlock();
-        p.setInitial(0, -10, 10);
-        p.branch(0, 0, 0, 1, 1, 2);
-        p.input(1, 2, 5, 6);
-        p.input(1, 3, 1, 1);
-        p.input(2, 2, 8, 8);
-        p.input(2, 3, 1, 1);
-        p.jump(1, 3);
-        p.jump(2, 3);
-        Check.equal("12 a diamond", p.analyze(), 2);
-        Check.equal("15 join low", p.entry(3, 2, false), 5);
-        Check.equal("15 join high", p.entry(3, 2, true), 8);
-        Check.equal("15 join of equal ones", p.entry(3, 3, true), 1);
-        Check.equal("15 refined", p.entry(1, 0, true), -1);
-        Check.equal("15 refined", p.entry(2, 0, false), 0);
-        Check.equal("15 joined again", p.entry(3, 0, false), -10);
-        Check.equal("15 joined again", p.entry(3, 0, true), 10);
-        Check.equal("19 constants", p.constants(3), 4);
-        Check.equal("19 constants behind the statements", p.constants(2), 5);
-        Check.equal("18 deadEdges", p.deadEdges(), 0);
-        Check.no("17 isDead", p.isDead(0, 0));
-    }
-
-    private static void initialRangesJoinInALoop() {
-        RangePropagator p = new RangePropagator();
-        p.setInitial(0, 3, 4);
-        p.input(0, 0, 1, 1);
-        p.jump(0, 0);
-        p.setEffort(2, 1);
-        Check.equal("12 block 0 in a loop", p.analyze(), 3);
-        Check.equal("15 low", p.entry(0, 0, false), 1);
-        Check.equal("15 high", p.entry(0, 0, true), 4);
-        Check.equal("20 visits", p.visits(0), 2);
-        p.setEffort(0, 1);
-        p.analyze();
-        Check.equal("15 low widened and narrowed", p.entry(0, 0, false), 1);
-        p.setEffort(0, 0);
-        p.analyze();
-        Check.equal("15 low widened", p.entry(0, 0, false), -1000000000);
-        Check.equal("15 high is not", p.entry(0, 0, true), 4);
-    }
-
-    /** A block that only the widened range reaches becomes "none" when it is narrowed. */
-    private static void narrowedToNone() {
-        RangePropagator p = loop();
-        int far = p.addBlock();
-        p.input(0, 3, 50, 50);
-        p.branch(3, 3, 0, 0, far, 0);
-        p.jump(far, far);
-        p.setEffort(0, 0);
-        p.analyze();
-        Check.yes("14 reached by widening", p.isReachable(far));
-        Check.equal("18 deadEdges", p.deadEdges(), 0);
-        p.setEffort(0, 5);
-        p.analyze();
-        // far leads to itself, so it keeps itself alive.
-        Check.yes("14 a loop keeps itself", p.isReachable(far));
-        p.clear(far);
-        p.analyze();
-        Check.no("14 narrowed to none", p.isReachable(far));
-        Check.yes("17 the edge to it", p.isDead(3, 0));
-        Check.equal("18 deadEdges", p.deadEdges(), 1);
-        Check.equal("19 constants of none", p.constants(far), 0);
-        Check.equal("20 visits stay", p.visits(far), 1);
-        Check.refused("15 of none", p, NO_ELEMENT, () -> p.entry(far, 0, false));
-        Check.refused("16 of none", p, NO_ELEMENT, () -> p.exit(far, 0, true));
-    }
-
-    private static void unreachableBlocks() {
-        RangePropagator p = new RangePropagator();
-        p.addBlock();
-        p.addBlock();
+    /** Blocks 1 and 2 lead to each other and to no other; none leads to them. */
+    private static RangePropagator partlyReachable() {
+        RangePropagator p = Programs.ofBlocks(16);
         p.branch(1, 0, 0, 0, 1, 2);
         p.input(1, 0, 1, 1);
         p.jump(2, 1);
-        Check.equal("12 rounds", p.analyze(), 2);
-        Check.yes("14 block 0", p.isReachable(0));
-        Check.no("14 block 1", p.isReachable(1));
-        Check.yes("17 an edge of none", p.isDead(1, 0));
-        Check.yes("17 an edge of none", p.isDead(1, 1));
-        Check.yes("17 an edge of none", p.isDead(2, 0));
-        Check.equal("18 these do not count", p.deadEdges(), 0);
-        Check.equal("19 constants", p.constants(1), 0);
-        Check.equal("20 visits", p.visits(1), 0);
-        Check.refused("15 entry", p, NO_ELEMENT, () -> p.entry(1, 0, false));
-        Check.refused("16 exit", p, NO_ELEMENT, () -> p.exit(1, 0, false));
-        Check.refused("15 index first", p, NO_INDEX, () -> p.entry(1, 6, false));
-        Check.refused("16 index first", p, NO_INDEX, () -> p.exit(1, -1, false));
+        p.jump(0, 15);
+        p.analyze();
+        return p;
+    }
+
+    private static void analyzeMakesTheAnalysis() {
+        Check.sentence("Promise 12", "Makes the analysis.");
+        RangePropagator p = Programs.counting(10);
+        Check.no("before", p.isAnalyzed());
+        p.analyze();
+        Check.yes("behind", p.isAnalyzed());
+        Check.entry("the head", p, 1, 0, 0, Check.GREATEST);
+        Check.entry("the body", p, 2, 0, 0, 9);
+        Check.entry("behind the loop", p, 3, 0, 10, Check.GREATEST);
+        long digest = p.digest();
+        p.analyze();
+        Check.equal("made again it is the same", p.digest(), digest);
+        p.clear(0);
+        p.analyze();
+        Check.no("nothing is left of the earlier one", p.isReachable(1));
+        p.run(0, 300);
+        Check.yes("an execution leaves it alone", p.isAnalyzed());
+    }
+
+    private static void analyzeReturnsTheRounds() {
+        Check.sentence("Promise 12", "Returns the number of rounds, the last one included.");
+        Check.equal("one block", new RangePropagator().analyze(), 2);
+        Check.equal("16 blocks in the order", Programs.upwards().analyze(), 2);
+        Check.equal("16 blocks against the order", Programs.downwards().analyze(), 16);
+        RangePropagator p = Programs.counting(10);
+        Check.equal("a loop", p.analyze(), 4);
+        Check.equal("a loop again", p.analyze(), 4);
+        p.setEffort(2, 5);
+        Check.equal("narrowings are no rounds", p.analyze(), 4);
+        p.setEffort(10, 0);
+        Check.equal("with the greatest delay", p.analyze(), 12);
+        p.setEffort(0, 0);
+        Check.equal("with the least delay", p.analyze(), 3);
+    }
+
+    private static void isAnalyzedReturns() {
+        Check.sentence("Promise 13", "Returns whether there is an analysis.");
+        RangePropagator p = new RangePropagator();
+        Check.no("a new object", p.isAnalyzed());
+        p.run(0, 1);
+        Check.no("an execution is none", p.isAnalyzed());
+        p.analyze();
+        Check.yes("analyzed", p.isAnalyzed());
+        Check.yes("asking leaves it", p.isAnalyzed());
+        p.analyze();
+        Check.yes("analyzed again", p.isAnalyzed());
+        p.clear(0);
+        Check.no("the program was changed", p.isAnalyzed());
+        p.analyze();
+        p.setEffort(1, 1);
+        Check.no("the settings were changed", p.isAnalyzed());
+    }
+
+    private static void isReachableReturns() {
+        Check.sentence("Promise 14", "Returns whether its entry state is not \"none\".");
+        RangePropagator p = partlyReachable();
+        for (int block = 0; block < 16; block++) {
+            Check.yes("block " + block, p.isReachable(block) == (block == 0 || block == 15));
+        }
+        RangePropagator q = analyzed();
+        for (int block = 0; block < 4; block++) {
+            Check.yes("block " + block + " of a loop", q.isReachable(block));
+        }
+    }
+
+    private static void entryReturns() {
+        Check.sentence("Promise 15", "Returns the end of the range of the variable in the entry state.");
+        RangePropagator p = Programs.upwards();
+        p.setInitial(0, Check.LEAST, -7);
+        p.setInitial(5, 8, Check.GREATEST);
+        p.input(0, 0, 1, 2);
+        p.input(15, 5, 3, 4);
+        p.analyze();
+        Check.entry("the first block and variable", p, 0, 0, Check.LEAST, -7);
+        Check.entry("the first block, the last variable", p, 0, 5, 8, Check.GREATEST);
+        Check.entry("the last block, the first variable", p, 15, 0, 1, 2);
+        Check.entry("before the statements of the last block", p, 15, 5, 8, Check.GREATEST);
+        Check.entry("a range of one integer", p, 15, 2, 0, 0);
+    }
+
+    private static void exitReturns() {
+        Check.sentence("Promise 16", "Returns the end of the range of the variable behind the statements of the block.");
+        RangePropagator p = Programs.upwards();
+        p.setInitial(0, Check.LEAST, -7);
+        p.setInitial(5, 8, Check.GREATEST);
+        p.input(0, 0, 1, 2);
+        p.input(15, 5, 3, 4);
+        p.input(15, 5, 5, 6);
+        p.analyze();
+        Check.exit("the first block and variable", p, 0, 0, 1, 2);
+        Check.exit("the first block, the last variable", p, 0, 5, 8, Check.GREATEST);
+        Check.exit("the last block, the first variable", p, 15, 0, 1, 2);
+        Check.exit("behind all statements of the last block", p, 15, 5, 5, 6);
+        Check.exit("a block without statements", p, 14, 5, 8, Check.GREATEST);
+        RangePropagator q = analyzed();
+        Check.exit("it is of the narrowed entry state", q, 2, 0, 1, 10);
+        Check.exit("a branch does not refine it", q, 1, 0, 0, Check.GREATEST);
+    }
+
+    private static void isDeadReturns() {
+        Check.sentence("Promise 17", "Returns whether the state of the edge is \"none\".");
+        RangePropagator p = Programs.ofBlocks(16);
+        p.branch(0, 0, 0, 1, 1, 15);
+        p.branch(15, 0, 1, 1, 0, 2);
+        p.branch(1, 0, 0, 1, 1, 15);
+        p.jump(2, 0);
+        p.analyze();
+        Check.yes("0 is not less than 0", p.isDead(0, 0));
+        Check.no("0 is not less than 0", p.isDead(0, 1));
+        Check.no("0 is not greater than 0", p.isDead(15, 0));
+        Check.yes("0 is not greater than 0", p.isDead(15, 1));
+        Check.yes("edge 0 of a block that is not reachable", p.isDead(1, 0));
+        Check.yes("edge 1 of a block that is not reachable", p.isDead(1, 1));
+        Check.yes("a JUMP of a block that is not reachable", p.isDead(2, 0));
+        RangePropagator q = analyzed();
+        Check.no("a JUMP", q.isDead(0, 0));
+        Check.no("edge 0", q.isDead(1, 0));
+        Check.no("edge 1", q.isDead(1, 1));
+    }
+
+    private static void deadEdgesReturns() {
+        Check.sentence("Promise 18", "Returns how many edges of blocks with an entry state other than \"none\" "
+                + "have the state \"none\".");
+        RangePropagator p = new RangePropagator();
+        p.analyze();
+        Check.equal("no edges", p.deadEdges(), 0);
+        Check.equal("edges of blocks that are not reachable", partlyReachable().deadEdges(), 0);
+        Check.equal("no dead edge", analyzed().deadEdges(), 0);
+        // Each of 16 blocks has one dead edge; the last one leads to itself.
+        for (int dead = 0; dead < 2; dead++) {
+            RangePropagator q = Programs.ofBlocks(16);
+            for (int block = 0; block < 16; block++) {
+                int next = Math.min(block + 1, 15);
+                q.branch(block, 0, dead == 0 ? 0 : 1, 1, dead == 0 ? 0 : next, dead == 0 ? next : 0);
+            }
+            q.analyze();
+            Check.equal("edge " + dead + " of 16 blocks", q.deadEdges(), 16);
+        }
+    }
+
+    private static void constantsReturns() {
+        Check.sentence("Promise 19", "Returns how many variables have only one integer in their range behind its "
+                + "statements; 0 if its entry state is \"none\".");
+        for (int wide = 0; wide <= 6; wide++) {
+            RangePropagator p = Programs.upwards();
+            for (int variable = 0; variable < wide; variable++) {
+                p.setInitial(variable, 4, 5);
+            }
+            p.input(0, 0, 9, 9);
+            p.input(15, 0, 1, 2);
+            p.analyze();
+            Check.equal("the first block", p.constants(0), 6 - Math.max(0, wide - 1));
+            Check.equal("a block without statements", p.constants(14), 6 - Math.max(0, wide - 1));
+            Check.equal("the last block", p.constants(15), 6 - Math.max(1, wide));
+        }
+        Check.equal("a block that is not reachable", partlyReachable().constants(1), 0);
+        Check.equal("an empty one that is not reachable", partlyReachable().constants(14), 0);
+    }
+
+    private static void visitsReturns() {
+        Check.sentence("Promise 20", "Returns its visits.");
+        RangePropagator p = analyzed();
+        int[] due = {1, 3, 3, 1};
+        for (int block = 0; block < 4; block++) {
+            Check.equal("block " + block, p.visits(block), due[block]);
+        }
+        RangePropagator q = partlyReachable();
+        for (int block = 0; block < 16; block++) {
+            Check.equal("block " + block, q.visits(block), block == 0 || block == 15 ? 1 : 0);
+        }
     }
 
     private static void withoutAnalysis() {
-        RangePropagator p = loop();
-        for (int block : new int[] {0, -1, 99}) {
-            Check.refused("14", p, NO_STATE, () -> p.isReachable(block));
-            Check.refused("15", p, NO_STATE, () -> p.entry(block, 0, false));
-            Check.refused("16", p, NO_STATE, () -> p.exit(block, 0, false));
-            Check.refused("17", p, NO_STATE, () -> p.isDead(block, 0));
-            Check.refused("19", p, NO_STATE, () -> p.constants(block));
-            Check.refused("20", p, NO_STATE, () -> p.visits(block));
-        }
-        Check.refused("15", p, NO_STATE, () -> p.entry(0, 6, false));
-        Check.refused("16", p, NO_STATE, () -> p.exit(0, -1, false));
-        Check.refused("17", p, NO_STATE, () -> p.isDead(0, 7));
-        Check.refused("18", p, NO_STATE, p::deadEdges);
-    }
-
-    private static void wrongIndices() {
-        RangePropagator p = loop();
-        p.analyze();
-        for (int bad : new int[] {-1, 4, 15, 16, MIN, MAX}) {
-            Check.refused("14 block", p, NO_INDEX, () -> p.isReachable(bad));
-            Check.refused("15 block", p, NO_INDEX, () -> p.entry(bad, 0, false));
-            Check.refused("16 block", p, NO_INDEX, () -> p.exit(bad, 0, false));
-            Check.refused("17 block", p, NO_INDEX, () -> p.isDead(bad, 0));
-            Check.refused("19 block", p, NO_INDEX, () -> p.constants(bad));
-            Check.refused("20 block", p, NO_INDEX, () -> p.visits(bad));
-        }
-        for (int bad : new int[] {-1, 6, MIN, MAX}) {
-            Check.refused("15 variable", p, NO_INDEX, () -> p.entry(0, bad, true));
-            Check.refused("16 variable", p, NO_INDEX, () -> p.exit(0, bad, true));
-        }
-        for (int bad : new int[] {-1, 1, 2, MIN, MAX}) {
-            Check.refused("17 edge of a JUMP", p, NO_INDEX, () -> p.isDead(0, bad));
-        }
-        for (int bad : new int[] {-1, 2, MIN, MAX}) {
-            Check.refused("17 edge of a BRANCH", p, NO_INDEX, () -> p.isDead(1, bad));
-        }
-        for (int bad : new int[] {-1, 0, 1}) {
-            Check.refused("17 edge of a RETURN", p, NO_INDEX, () -> p.isDead(3, bad));
+        RangePropagator p = Programs.counting(10);
+        for (int time = 0; time < 2; time++) {
+            Check.sentence("Promise 14", "Throws `IllegalStateException` if there is no analysis");
+            Check.refused("isReachable", p, Check.STATE, () -> p.isReachable(0));
+            Check.sentence("Promise 15", "Throws `IllegalStateException` if there is no analysis");
+            Check.refused("entry", p, Check.STATE, () -> p.entry(0, 0, false));
+            Check.sentence("Promise 16", "Throws `IllegalStateException` if there is no analysis");
+            Check.refused("exit", p, Check.STATE, () -> p.exit(0, 0, false));
+            Check.sentence("Promise 17", "Throws `IllegalStateException` if there is no analysis");
+            Check.refused("isDead", p, Check.STATE, () -> p.isDead(0, 0));
+            Check.sentence("Promise 18", "Throws `IllegalStateException` if there is no analysis");
+            Check.refused("deadEdges", p, Check.STATE, p::deadEdges);
+            Check.sentence("Promise 19", "Throws `IllegalStateException` if there is no analysis");
+            Check.refused("constants", p, Check.STATE, () -> p.constants(0));
+            Check.sentence("Promise 20", "Throws `IllegalStateException` if there is no analysis");
+            Check.refused("visits", p, Check.STATE, () -> p.visits(0));
+            // The second time there was an analysis, which a change has ended.
+            p.analyze();
+            answersWithAnalysis(p);
+            p.setInitial(0, 0, 0);
         }
     }
 
-    private static void analyzedAgain() {
-        RangePropagator p = loop();
-        p.analyze();
-        long digest = p.digest();
-        Check.equal("12 again", p.analyze(), 4);
-        Check.equal("12 again: the same states", p.digest(), digest);
-        p.clear(0);
-        p.analyze();
-        Check.no("12 nothing is left of the earlier one", p.isReachable(1));
-        Check.equal("12 nothing is left of the earlier one", p.visits(1), 0);
-        Check.equal("19 nothing is left of the earlier one", p.constants(1), 0);
-        Check.yes("17 nothing is left of the earlier one", p.isDead(1, 1));
-        Check.refused("15 nothing is left of the earlier one", p, NO_ELEMENT, () -> p.entry(1, 0, false));
-        Check.refused("16 nothing is left of the earlier one", p, NO_ELEMENT, () -> p.exit(1, 0, false));
+    private static void answersWithAnalysis(RangePropagator p) {
+        Check.yes("isReachable with an analysis", p.isReachable(0));
+        Check.equal("entry with an analysis", p.entry(0, 0, false), 0);
+        Check.equal("exit with an analysis", p.exit(0, 1, false), 10);
+        Check.no("isDead with an analysis", p.isDead(0, 0));
+        Check.equal("deadEdges with an analysis", p.deadEdges(), 0);
+        Check.equal("constants with an analysis", p.constants(0), 6);
+        Check.equal("visits with an analysis", p.visits(0), 1);
     }
 
-    /** A chain of 16 blocks with 8 statements each; each has a dead edge back. */
-    private static void sixteenBlocks() {
-        RangePropagator p = new RangePropagator();
-        p.setInitial(1, 1, 1);
-        for (int block = 1; block < 16; block++) {
-            p.addBlock();
-        }
-        for (int block = 0; block < 16; block++) {
-            for (int i = 0; i < 8; i++) {
-                p.compute(block, 1, 0, 0, 1);
-            }
-            if (block < 15) {
-                p.branch(block, 0, 3, 1, block + 1, block);
-            }
-        }
-        Check.equal("12 sixteen blocks", p.analyze(), 2);
-        Check.equal("15 the last entry", p.entry(15, 0, true), 120);
-        Check.equal("16 the last exit", p.exit(15, 0, false), 128);
-        Check.equal("18 deadEdges", p.deadEdges(), 15);
-        Check.equal("19 constants", p.constants(15), 6);
-        Check.equal("20 visits", p.visits(15), 1);
-        Check.equal("21 steps", p.run(5, 300), 16);
-        Check.equal("24 result", p.result(0), 128);
+    private static void wrongBlocks() {
+        RangePropagator p = analyzed();
+        RangePropagator full = partlyReachable();
+        Check.sentence("Promise 14", "Throws `IndexOutOfBoundsException` if there is no such block");
+        Check.refusedFor("isReachable", p, Check.INDEX, p::isReachable, NO_BLOCKS_OF_FOUR);
+        Check.refusedFor("isReachable of 16", full, Check.INDEX, full::isReachable, -1, 16);
+        Check.sentence("Promise 15", "Throws `IndexOutOfBoundsException` if there is no such block or variable");
+        Check.refusedFor("entry", p, Check.INDEX, b -> p.entry(b, 0, false), NO_BLOCKS_OF_FOUR);
+        Check.refusedFor("entry of 16", full, Check.INDEX, b -> full.entry(b, 0, false), -1, 16);
+        Check.sentence("Promise 16", "Throws `IndexOutOfBoundsException` if there is no such block or variable");
+        Check.refusedFor("exit", p, Check.INDEX, b -> p.exit(b, 0, false), NO_BLOCKS_OF_FOUR);
+        Check.refusedFor("exit of 16", full, Check.INDEX, b -> full.exit(b, 0, false), -1, 16);
+        Check.sentence("Promise 17", "Throws `IndexOutOfBoundsException` if there is no such block, or it has no such edge");
+        Check.refusedFor("isDead", p, Check.INDEX, b -> p.isDead(b, 0), NO_BLOCKS_OF_FOUR);
+        Check.refusedFor("isDead of 16", full, Check.INDEX, b -> full.isDead(b, 0), -1, 16);
+        Check.sentence("Promise 19", "Throws `IndexOutOfBoundsException` if there is no such block");
+        Check.refusedFor("constants", p, Check.INDEX, p::constants, NO_BLOCKS_OF_FOUR);
+        Check.refusedFor("constants of 16", full, Check.INDEX, full::constants, -1, 16);
+        Check.sentence("Promise 20", "Throws `IndexOutOfBoundsException` if there is no such block");
+        Check.refusedFor("visits", p, Check.INDEX, p::visits, NO_BLOCKS_OF_FOUR);
+        Check.refusedFor("visits of 16", full, Check.INDEX, full::visits, -1, 16);
+    }
+
+    private static void wrongVariables() {
+        RangePropagator p = analyzed();
+        Check.sentence("Promise 15", "Throws `IndexOutOfBoundsException` if there is no such block or variable");
+        Check.refusedFor("low at the entry", p, Check.INDEX, v -> p.entry(0, v, false), -1, 6, Check.MIN, Check.MAX);
+        Check.refusedFor("high at the entry", p, Check.INDEX, v -> p.entry(3, v, true), -1, 6, Check.MIN, Check.MAX);
+        Check.sentence("Promise 16", "Throws `IndexOutOfBoundsException` if there is no such block or variable");
+        Check.refusedFor("low at the exit", p, Check.INDEX, v -> p.exit(0, v, false), -1, 6, Check.MIN, Check.MAX);
+        Check.refusedFor("high at the exit", p, Check.INDEX, v -> p.exit(3, v, true), -1, 6, Check.MIN, Check.MAX);
+    }
+
+    private static void wrongEdges() {
+        Check.sentence("Promise 17", "Throws `IndexOutOfBoundsException` if there is no such block, or it has no such edge");
+        RangePropagator p = analyzed();
+        Check.refusedFor("edge of a RETURN", p, Check.INDEX, e -> p.isDead(3, e), -1, 0, 1, 2, Check.MIN, Check.MAX);
+        Check.refusedFor("edge of a JUMP", p, Check.INDEX, e -> p.isDead(0, e), -1, 1, 2, Check.MIN, Check.MAX);
+        Check.refusedFor("edge of a BRANCH", p, Check.INDEX, e -> p.isDead(1, e), -1, 2, 3, Check.MIN, Check.MAX);
+        RangePropagator q = partlyReachable();
+        Check.refusedFor("edge of a RETURN, not reachable", q, Check.INDEX, e -> q.isDead(3, e), -1, 0, 1);
+        Check.refusedFor("edge of a JUMP, not reachable", q, Check.INDEX, e -> q.isDead(2, e), -1, 1, 2);
+        Check.refusedFor("edge of a BRANCH, not reachable", q, Check.INDEX, e -> q.isDead(1, e), -1, 2, 3);
+    }
+
+    private static void entryAndExitOfNone() {
+        RangePropagator p = partlyReachable();
+        Check.sentence("Promise 15", "Throws `java` .util.NoSuchElementException if the entry state is \"none\"");
+        Check.refusedFor("low at the entry", p, Check.ELEMENT, v -> p.entry(1, v, false), 0, 5);
+        Check.refusedFor("high at the entry of block", p, Check.ELEMENT, b -> p.entry(b, 0, true), 1, 2, 3, 14);
+        Check.equal("block 0 has an entry state", p.entry(0, 0, true), 0);
+        Check.equal("block 15 has an entry state", p.entry(15, 0, true), 0);
+        Check.sentence("Promise 16", "Throws `java` .util.NoSuchElementException if the entry state is \"none\"");
+        Check.refusedFor("low at the exit", p, Check.ELEMENT, v -> p.exit(1, v, false), 0, 5);
+        Check.refusedFor("high at the exit of block", p, Check.ELEMENT, b -> p.exit(b, 0, true), 1, 2, 3, 14);
+        Check.equal("block 0 has an exit", p.exit(0, 0, true), 0);
+        Check.equal("block 15 has an exit", p.exit(15, 0, true), 0);
+        // Even where a SET would give the variable a range.
+        RangePropagator q = analyzed();
+        q.clear(0);
+        q.input(3, 0, 5, 5);
+        q.analyze();
+        Check.refused("a SET in a block that was reachable before", q, Check.ELEMENT, () -> q.exit(3, 0, false));
+        Check.refused("its entry", q, Check.ELEMENT, () -> q.entry(3, 0, false));
     }
 }

@@ -1,243 +1,159 @@
-/** Promises 1 to 9: the program is built. */
+/** Promises 1, 2, 3 and 9, sentence by sentence: the blocks and the initial ranges. */
 public final class ProgramTest {
-    private static final Class<IndexOutOfBoundsException> NO_INDEX = IndexOutOfBoundsException.class;
-    private static final Class<IllegalArgumentException> NO_ARGUMENT = IllegalArgumentException.class;
-    private static final Class<IllegalStateException> NO_STATE = IllegalStateException.class;
-    private static final int MIN = Integer.MIN_VALUE;
-    private static final int MAX = Integer.MAX_VALUE;
-    private static final int LEAST = -1000000000;
-    private static final int GREATEST = 1000000000;
-
     public static void main(String[] args) {
         newObject();
-        addBlock();
-        setInitial();
-        input();
-        compute();
-        statementsAreLimited();
-        jump();
-        branch();
-        clear();
-        changesDropTheAnalysis();
+        addBlockAdds();
+        addBlockReturnsTheNumber();
+        addBlockAtSixteen();
+        setInitialSets();
+        setInitialReturnsWhetherOther();
+        setInitialWrongVariable();
+        setInitialWrongRange();
+        blockCountReturnsTheNumber();
         Check.end("ProgramTest");
     }
 
     private static void newObject() {
+        Check.sentence("Promise 1", "Creates a propagator with one block, which has no statements and returns.");
         RangePropagator p = new RangePropagator();
-        Check.equal("1 blockCount", p.blockCount(), 1);
-        Check.no("1 isAnalyzed", p.isAnalyzed());
-        Check.equal("1 clear: statements", p.clear(0), 0);
-        Check.equal("1 jump: edges before", p.jump(0, 0), 0);
+        Check.equal("blockCount", p.blockCount(), 1);
+        Check.no("isAnalyzed", p.isAnalyzed());
+        Check.equal("statements", p.clear(0), 0);
+        Check.equal("the next block", p.addBlock(), 1);
+        Check.equal("edges", new RangePropagator().jump(0, 0), 0);
         RangePropagator q = new RangePropagator();
-        Check.equal("1 analyze", q.analyze(), 2);
-        Check.equal("1 constants", q.constants(0), 6);
-        Check.equal("1 entry low", q.entry(0, 5, false), 0);
-        Check.equal("1 entry high", q.entry(0, 5, true), 0);
-        Check.equal("1 run", q.run(3, 300), 1);
-    }
-
-    private static void addBlock() {
-        RangePropagator p = new RangePropagator();
-        for (int i = 1; i < 16; i++) {
-            Check.equal("2 addBlock", p.addBlock(), i);
-            Check.equal("9 blockCount", p.blockCount(), i + 1);
-            Check.equal("2 statements of a new block", p.clear(i), 0);
-            Check.equal("2 edges of a new block", p.jump(i, 0), 0);
+        Check.refusedFor("no other block", q, Check.INDEX, q::clear, -1, 1, 2);
+        Check.equal("steps until it returns", q.run(3, 300), 1);
+        q.analyze();
+        for (int variable = 0; variable < 6; variable++) {
+            Check.exit("no statements", q, 0, variable, 0, 0);
         }
-        p.analyze();
-        Check.refused("2 addBlock, the 17th", p, NO_STATE, p::addBlock);
-        Check.equal("9 blockCount", p.blockCount(), 16);
+        Check.refused("no edges", q, Check.INDEX, () -> q.isDead(0, 0));
+        twoObjectsAreApart();
     }
 
-    private static void setInitial() {
+    private static void twoObjectsAreApart() {
         RangePropagator p = new RangePropagator();
-        Check.no("3 the first range", p.setInitial(0, 0, 0));
-        Check.yes("3 another high", p.setInitial(0, 0, 1));
-        Check.no("3 the same", p.setInitial(0, 0, 1));
-        Check.yes("3 another low", p.setInitial(0, -1, 1));
-        Check.no("3 another variable is unchanged", p.setInitial(5, 0, 0));
-        Check.yes("3 widest", p.setInitial(5, LEAST, GREATEST));
-        Check.yes("3 all at the least", p.setInitial(4, LEAST, LEAST));
-        Check.yes("3 all at the greatest", p.setInitial(3, GREATEST, GREATEST));
-        p.analyze();
-        Check.equal("3 entry", p.entry(0, 0, false), -1);
-        Check.equal("3 entry", p.entry(0, 0, true), 1);
-        Check.equal("3 entry", p.entry(0, 5, false), LEAST);
-        Check.equal("3 entry", p.entry(0, 5, true), GREATEST);
-        Check.equal("3 entry", p.entry(0, 4, true), LEAST);
-        Check.equal("3 entry", p.entry(0, 3, false), GREATEST);
-        for (int variable : new int[] {-1, 6, MIN, MAX}) {
-            Check.refused("3 variable", p, NO_INDEX, () -> p.setInitial(variable, 0, 0));
-            Check.refused("3 variable first", p, NO_INDEX, () -> p.setInitial(variable, 1, 0));
-        }
-        for (int[] r : badRanges()) {
-            Check.refused("3 range", p, NO_ARGUMENT, () -> p.setInitial(0, r[0], r[1]));
-        }
-        Check.no("3 a refused call changed nothing", p.setInitial(0, -1, 1));
-    }
-
-    private static int[][] badRanges() {
-        return new int[][] {
-            {1, 0}, {LEAST - 1, 0}, {0, GREATEST + 1}, {LEAST - 1, GREATEST + 1}, {MIN, MAX}, {MAX, MIN},
-            {GREATEST + 1, GREATEST + 1}, {LEAST - 1, LEAST - 1}, {GREATEST, LEAST}, {MIN, MIN}, {MAX, MAX}
-        };
-    }
-
-    private static void input() {
-        RangePropagator p = new RangePropagator();
+        RangePropagator q = new RangePropagator();
         p.addBlock();
-        Check.equal("4 input", p.input(0, 0, -5, 5), 1);
-        Check.equal("4 input", p.input(0, 5, LEAST, GREATEST), 2);
-        Check.equal("4 input of one integer", p.input(0, 1, 7, 7), 3);
-        Check.equal("4 input in another block", p.input(1, 1, 7, 7), 1);
-        p.analyze();
-        Check.equal("4 exit", p.exit(0, 0, false), -5);
-        Check.equal("4 exit", p.exit(0, 0, true), 5);
-        Check.equal("4 exit", p.exit(0, 5, false), LEAST);
-        Check.equal("4 exit", p.exit(0, 5, true), GREATEST);
-        Check.equal("4 exit", p.exit(0, 1, false), 7);
-        Check.equal("4 exit", p.exit(0, 1, true), 7);
-        Check.equal("4 exit of an untouched variable", p.exit(0, 2, true), 0);
-        for (int bad : new int[] {-1, 2, 16, MIN, MAX}) {
-            Check.refused("4 block", p, NO_INDEX, () -> p.input(bad, 0, 0, 0));
-            Check.refused("4 block first", p, NO_INDEX, () -> p.input(bad, 0, 1, 0));
-        }
-        for (int bad : new int[] {-1, 6, MIN, MAX}) {
-            Check.refused("4 variable", p, NO_INDEX, () -> p.input(0, bad, 0, 0));
-            Check.refused("4 variable first", p, NO_INDEX, () -> p.input(0, bad, 1, 0));
-        }
-        for (int[] r : badRanges()) {
-            Check.refused("4 range", p, NO_ARGUMENT, () -> p.input(0, 0, r[0], r[1]));
-        }
-    }
-
-    private static void compute() {
-        RangePropagator p = new RangePropagator();
-        for (int kind = 0; kind < 6; kind++) {
-            Check.equal("5 compute", p.compute(0, kind, 5, 0, 5), kind + 1);
-        }
-        p.analyze();
-        for (int bad : new int[] {-1, 1, 16, MIN, MAX}) {
-            Check.refused("5 block", p, NO_INDEX, () -> p.compute(bad, 0, 0, 0, 0));
-            Check.refused("5 block first", p, NO_INDEX, () -> p.compute(bad, 6, 0, 0, 0));
-        }
-        for (int bad : new int[] {-1, 6, MIN, MAX}) {
-            Check.refused("5 x", p, NO_INDEX, () -> p.compute(0, 1, bad, 0, 0));
-            Check.refused("5 y", p, NO_INDEX, () -> p.compute(0, 1, 0, bad, 0));
-            Check.refused("5 z", p, NO_INDEX, () -> p.compute(0, 1, 0, 0, bad));
-            Check.refused("5 z of a COPY", p, NO_INDEX, () -> p.compute(0, 0, 0, 0, bad));
-            Check.refused("5 kind", p, NO_ARGUMENT, () -> p.compute(0, bad, 0, 0, 0));
-            Check.refused("5 variable before kind", p, NO_INDEX, () -> p.compute(0, bad, 0, 0, 6));
-        }
-    }
-
-    private static void statementsAreLimited() {
-        RangePropagator p = new RangePropagator();
-        for (int i = 1; i <= 8; i++) {
-            Check.equal("4 and 5 count together", i % 2 == 0 ? p.input(0, 0, 0, i) : p.compute(0, 0, 1, 0, 0), i);
-        }
-        p.analyze();
-        Check.refused("4 the ninth", p, NO_STATE, () -> p.input(0, 0, 0, 0));
-        Check.refused("4 range first", p, NO_ARGUMENT, () -> p.input(0, 0, 1, 0));
-        Check.refused("4 variable first", p, NO_INDEX, () -> p.input(0, 6, 1, 0));
-        Check.refused("5 the ninth", p, NO_STATE, () -> p.compute(0, 0, 0, 0, 0));
-        Check.refused("5 kind first", p, NO_ARGUMENT, () -> p.compute(0, 6, 0, 0, 0));
-        Check.refused("5 variable first", p, NO_INDEX, () -> p.compute(0, 6, 0, -1, 0));
-        Check.equal("4 all eight are done", p.exit(0, 0, true), 8);
-        Check.equal("5 all eight are done", p.exit(0, 1, true), 6);
-    }
-
-    private static void jump() {
-        RangePropagator p = new RangePropagator();
-        p.addBlock();
-        Check.equal("6 of a RETURN", p.jump(0, 1), 0);
-        Check.equal("6 of a JUMP", p.jump(0, 0), 1);
-        p.branch(0, 0, 0, 1, 0, 1);
-        Check.equal("6 of a BRANCH", p.jump(0, 1), 2);
-        p.analyze();
-        Check.yes("6 the block behind it", p.isReachable(1));
-        for (int bad : new int[] {-1, 2, 16, MIN, MAX}) {
-            Check.refused("6 block", p, NO_INDEX, () -> p.jump(bad, 0));
-            Check.refused("6 a", p, NO_INDEX, () -> p.jump(0, bad));
-        }
-    }
-
-    private static void branch() {
-        RangePropagator p = new RangePropagator();
-        p.addBlock();
-        Check.equal("7 of a RETURN", p.branch(0, 0, 0, 1, 0, 1), 0);
-        Check.equal("7 of a BRANCH", p.branch(0, 0, 1, 1, 1, 1), 2);
+        p.setInitial(0, 1, 2);
+        p.input(0, 0, 3, 4);
         p.jump(0, 1);
-        Check.equal("7 of a JUMP", p.branch(0, 5, 3, 5, 1, 0), 1);
+        p.setEffort(0, 0);
+        p.addThreshold(9);
         p.analyze();
-        for (int bad : new int[] {-1, 2, 16, MIN, MAX}) {
-            Check.refused("7 block", p, NO_INDEX, () -> p.branch(bad, 0, 0, 0, 0, 0));
-            Check.refused("7 a", p, NO_INDEX, () -> p.branch(0, 0, 0, 0, bad, 0));
-            Check.refused("7 b", p, NO_INDEX, () -> p.branch(0, 0, 0, 0, 0, bad));
-            Check.refused("7 b before relation", p, NO_INDEX, () -> p.branch(0, 0, 4, 0, 0, bad));
-        }
-        for (int bad : new int[] {-1, 6, MIN, MAX}) {
-            Check.refused("7 x", p, NO_INDEX, () -> p.branch(0, bad, 0, 0, 0, 0));
-            Check.refused("7 y", p, NO_INDEX, () -> p.branch(0, 0, 0, bad, 0, 0));
-            Check.refused("7 y before relation", p, NO_INDEX, () -> p.branch(0, 0, -1, bad, 0, 0));
-        }
-        for (int bad : new int[] {-1, 4, MIN, MAX}) {
-            Check.refused("7 relation", p, NO_ARGUMENT, () -> p.branch(0, 0, bad, 0, 0, 0));
-        }
+        p.run(1, 1);
+        Check.equal("digest of an untouched object", q.digest(), new RangePropagator().digest());
+        Check.no("its initial range", q.setInitial(0, 0, 0));
+        Check.no("its effort", q.setEffort(2, 1));
+        Check.equal("its thresholds", q.addThreshold(5), 1);
     }
 
-    private static void clear() {
+    private static void addBlockAdds() {
+        Check.sentence("Promise 2", "Adds a block without statements, which returns.");
         RangePropagator p = new RangePropagator();
-        p.addBlock();
-        p.input(0, 0, 1, 2);
-        p.input(0, 1, 1, 2);
-        p.branch(0, 0, 0, 1, 1, 1);
-        p.analyze();
-        for (int bad : new int[] {-1, 2, 16, MIN, MAX}) {
-            Check.refused("8 block", p, NO_INDEX, () -> p.clear(bad));
+        for (int block = 1; block < 16; block++) {
+            p.addBlock();
+            Check.equal("statements of block " + block, p.clear(block), 0);
+            p.input(block, 0, block, block);
+            Check.equal("edges of block " + block, p.jump(block, 0), 0);
         }
-        Check.equal("8 clear", p.clear(0), 2);
-        Check.equal("8 clear again", p.clear(0), 0);
-        Check.equal("8 blockCount", p.blockCount(), 2);
-        p.analyze();
-        Check.equal("8 no statements", p.exit(0, 0, true), 0);
-        Check.no("8 no edges", p.isReachable(1));
-        Check.refused("8 no edge", p, NO_INDEX, () -> p.isDead(0, 0));
-        Check.equal("8 a RETURN", p.jump(0, 1), 0);
-        Check.equal("8 room again", p.input(0, 0, 3, 4), 1);
-        p.analyze();
-        Check.equal("8 the new statement", p.exit(0, 0, true), 4);
-        Check.equal("8 the old one is gone", p.exit(0, 1, true), 0);
+        RangePropagator q = Programs.ofBlocks(2);
+        q.jump(0, 1);
+        Check.equal("steps until the added block returns", q.run(0, 300), 2);
     }
 
-    private static void changesDropTheAnalysis() {
+    private static void addBlockReturnsTheNumber() {
+        Check.sentence("Promise 2", "Returns its number.");
         RangePropagator p = new RangePropagator();
-        dropped("addBlock", p, p::addBlock);
-        dropped("setInitial", p, () -> p.setInitial(0, 0, 0));
-        dropped("input", p, () -> p.input(0, 0, 0, 0));
-        dropped("compute", p, () -> p.compute(0, 0, 0, 0, 0));
-        dropped("jump", p, () -> p.jump(0, 1));
-        dropped("jump, the same", p, () -> p.jump(0, 1));
-        dropped("branch", p, () -> p.branch(0, 0, 0, 0, 0, 0));
-        dropped("branch, the same", p, () -> p.branch(0, 0, 0, 0, 0, 0));
-        dropped("clear", p, () -> p.clear(1));
-        dropped("setEffort, the same", p, () -> p.setEffort(2, 1));
-        dropped("addThreshold", p, () -> p.addThreshold(4));
-        dropped("addThreshold, the same", p, () -> p.addThreshold(4));
-        p.analyze();
-        p.blockCount();
-        p.run(1, 300);
-        p.enteredBlock(0);
-        p.enteredWith(0, 0);
-        p.result(0);
-        p.digest();
-        Check.yes("the analysis is kept", p.isAnalyzed());
+        for (int block = 1; block < 16; block++) {
+            Check.equal("addBlock", p.addBlock(), block);
+            // A block that is cleared stays a block.
+            p.clear(block);
+        }
     }
 
-    private static void dropped(String what, RangePropagator p, Check.Call call) {
+    private static void addBlockAtSixteen() {
+        Check.sentence("Promise 2", "Throws `IllegalStateException` if there are 16 blocks");
+        RangePropagator p = Programs.ofBlocks(15);
+        Check.equal("with 15 blocks", p.addBlock(), 15);
+        Check.refused("with 16 blocks", p, Check.STATE, p::addBlock);
+        p.clear(15);
         p.analyze();
-        Check.yes(what + ": before", p.isAnalyzed());
-        call.make();
-        Check.no(what + " drops the analysis", p.isAnalyzed());
+        Check.refused("with 16 blocks again", p, Check.STATE, p::addBlock);
+        Check.equal("blockCount", p.blockCount(), 16);
+    }
+
+    private static void setInitialSets() {
+        Check.sentence("Promise 3", "Sets the initial range of a variable.");
+        for (int variable = 0; variable < 6; variable++) {
+            RangePropagator p = new RangePropagator();
+            p.setInitial(variable, -7, -6);
+            p.setInitial(variable, 8, 8);
+            p.setInitial(variable, 3, 4);
+            p.analyze();
+            p.run(0, 1);
+            for (int other = 0; other < 6; other++) {
+                Check.entry("variable " + other, p, 0, other, other == variable ? 3 : 0, other == variable ? 4 : 0);
+                boolean isWithin = other == variable ? p.result(other) == 3 || p.result(other) == 4 : p.result(other) == 0;
+                Check.yes("variable " + other + " in an execution", isWithin);
+            }
+        }
+    }
+
+    private static void setInitialReturnsWhetherOther() {
+        Check.sentence("Promise 3", "Returns whether it is another one than before.");
+        RangePropagator p = new RangePropagator();
+        Check.no("0 to 0 at first", p.setInitial(0, 0, 0));
+        Check.yes("another high", p.setInitial(0, 0, 1));
+        Check.no("the same", p.setInitial(0, 0, 1));
+        Check.yes("another low", p.setInitial(0, -1, 1));
+        Check.no("the same", p.setInitial(0, -1, 1));
+        Check.yes("both ends", p.setInitial(0, -2, 2));
+        Check.yes("back again", p.setInitial(0, 0, 0));
+        Check.no("another variable stays 0 to 0", p.setInitial(5, 0, 0));
+        Check.yes("the widest", p.setInitial(5, Check.LEAST, Check.GREATEST));
+        Check.yes("one less at the high end", p.setInitial(5, Check.LEAST, Check.GREATEST - 1));
+        Check.yes("one more at the low end", p.setInitial(5, Check.LEAST + 1, Check.GREATEST - 1));
+        Check.no("the same", p.setInitial(5, Check.LEAST + 1, Check.GREATEST - 1));
+    }
+
+    private static void setInitialWrongVariable() {
+        Check.sentence("Promise 3", "Throws `IndexOutOfBoundsException` if there is no such variable");
+        RangePropagator p = new RangePropagator();
+        Check.yes("the first", p.setInitial(0, 1, 1));
+        Check.yes("the last", p.setInitial(5, 1, 1));
+        Check.refusedFor("variable", p, Check.INDEX, v -> p.setInitial(v, 0, 0), -1, 6, 7, Check.MIN, Check.MAX);
+    }
+
+    private static void setInitialWrongRange() {
+        Check.sentence("Promise 3", "Throws `IllegalArgumentException` if low or high is not -1000000000 to 1000000000, "
+                + "or low is greater than high");
+        RangePropagator p = new RangePropagator();
+        for (int[] range : Programs.GOOD_RANGES) {
+            p.setInitial(0, range[0], range[1]);
+            p.analyze();
+            Check.entry("a good range", p, 0, 0, range[0], range[1]);
+        }
+        for (int[] range : Programs.BAD_RANGES) {
+            Check.refused("range " + range[0] + " to " + range[1], p, Check.ARGUMENT,
+                    () -> p.setInitial(0, range[0], range[1]));
+        }
+        Check.no("the range is as before", p.setInitial(0, 4, 5));
+    }
+
+    private static void blockCountReturnsTheNumber() {
+        Check.sentence("Promise 9", "Returns the number of blocks.");
+        RangePropagator p = new RangePropagator();
+        for (int count = 1; count <= 16; count++) {
+            Check.equal("blockCount", p.blockCount(), count);
+            p.clear(count - 1);
+            Check.equal("blockCount behind a clear", p.blockCount(), count);
+            if (count < 16) {
+                p.addBlock();
+            }
+        }
+        Check.thrownBy(p::addBlock);
+        Check.equal("blockCount behind a refused block", p.blockCount(), 16);
     }
 }
