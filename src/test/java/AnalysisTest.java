@@ -3,22 +3,22 @@ public final class AnalysisTest {
     private static final int[] NO_BLOCKS_OF_FOUR = {-1, 4, 5, 15, 16, Check.MIN, Check.MAX};
 
     public static void main(String[] args) {
-        analyzeMakesTheAnalysis();
-        analyzeReturnsTheRounds();
-        isAnalyzedReturns();
-        isReachableReturns();
-        entryReturns();
-        exitReturns();
-        isDeadReturns();
-        deadEdgesReturns();
-        constantsReturns();
-        visitsReturns();
-        withoutAnalysis();
-        wrongBlocks();
-        wrongVariables();
-        wrongEdges();
-        entryAndExitOfNone();
-        Check.end("AnalysisTest");
+        Check.all("AnalysisTest",
+                AnalysisTest::analyzeMakesTheAnalysis,
+                AnalysisTest::analyzeReturnsTheRounds,
+                AnalysisTest::isAnalyzedReturns,
+                AnalysisTest::isReachableReturns,
+                AnalysisTest::entryReturns,
+                AnalysisTest::exitReturns,
+                AnalysisTest::isDeadReturns,
+                AnalysisTest::deadEdgesReturns,
+                AnalysisTest::constantsReturns,
+                AnalysisTest::visitsReturns,
+                AnalysisTest::withoutAnalysis,
+                AnalysisTest::wrongBlocks,
+                AnalysisTest::wrongVariables,
+                AnalysisTest::wrongEdges,
+                AnalysisTest::entryAndExitOfNone);
     }
 
     /** The counting loop to 10, analyzed: the head is 0 to 1000000000, the body 0 to 9. */
@@ -104,14 +104,21 @@ public final class AnalysisTest {
         }
     }
 
-    private static void entryReturns() {
-        Check.sentence("Promise 15", "Returns the end of the range of the variable in the entry state.");
+    /** The first and the last of 16 blocks change the first and the last variable. */
+    private static RangePropagator sixteenInARow() {
         RangePropagator p = Programs.upwards();
         p.setInitial(0, Check.LEAST, -7);
         p.setInitial(5, 8, Check.GREATEST);
         p.input(0, 0, 1, 2);
         p.input(15, 5, 3, 4);
+        p.input(15, 5, 5, 6);
         p.analyze();
+        return p;
+    }
+
+    private static void entryReturns() {
+        Check.sentence("Promise 15", "Returns the end of the range of the variable in the entry state.");
+        RangePropagator p = sixteenInARow();
         Check.entry("the first block and variable", p, 0, 0, Check.LEAST, -7);
         Check.entry("the first block, the last variable", p, 0, 5, 8, Check.GREATEST);
         Check.entry("the last block, the first variable", p, 15, 0, 1, 2);
@@ -121,13 +128,7 @@ public final class AnalysisTest {
 
     private static void exitReturns() {
         Check.sentence("Promise 16", "Returns the end of the range of the variable behind the statements of the block.");
-        RangePropagator p = Programs.upwards();
-        p.setInitial(0, Check.LEAST, -7);
-        p.setInitial(5, 8, Check.GREATEST);
-        p.input(0, 0, 1, 2);
-        p.input(15, 5, 3, 4);
-        p.input(15, 5, 5, 6);
-        p.analyze();
+        RangePropagator p = sixteenInARow();
         Check.exit("the first block and variable", p, 0, 0, 1, 2);
         Check.exit("the first block, the last variable", p, 0, 5, 8, Check.GREATEST);
         Check.exit("the last block, the first variable", p, 15, 0, 1, 2);

@@ -10,25 +10,25 @@ public final class BlocksTest {
     private static final int MAX = 5;
 
     public static void main(String[] args) {
-        sixVariables();
-        integersOfAVariable();
-        sixteenBlocks();
-        eightStatements();
-        statementsInTheirOrder();
-        thenAnEnd();
-        block0IsEntered();
-        initialRanges();
-        setAndInput();
-        copy();
-        tooSmallOrTooGreat();
-        productsTooSmallOrTooGreat();
-        smallerAndGreater();
-        returnAtFirst();
-        jumpToABlock();
-        relations();
-        edgeOfAJump();
-        edgesOfABranch();
-        Check.end("BlocksTest");
+        Check.all("BlocksTest",
+                BlocksTest::sixVariables,
+                BlocksTest::integersOfAVariable,
+                BlocksTest::sixteenBlocks,
+                BlocksTest::eightStatements,
+                BlocksTest::statementsInTheirOrder,
+                BlocksTest::thenAnEnd,
+                BlocksTest::block0IsEntered,
+                BlocksTest::initialRanges,
+                BlocksTest::setAndInput,
+                BlocksTest::copy,
+                BlocksTest::tooSmallOrTooGreat,
+                BlocksTest::productsTooSmallOrTooGreat,
+                BlocksTest::smallerAndGreater,
+                BlocksTest::returnAtFirst,
+                BlocksTest::jumpToABlock,
+                BlocksTest::relations,
+                BlocksTest::edgeOfAJump,
+                BlocksTest::edgesOfABranch);
     }
 
     private static void sixVariables() {
@@ -298,7 +298,8 @@ public final class BlocksTest {
     }
 
     private static void relations() {
-        Check.sentence("Program", "a relation (0 x less than y, 1 x not greater than y, 2 x equal to y, 3 x not equal to y), "
+        Check.sentence("Program",
+                "a relation (0 x less than y, 1 x not greater than y, 2 x equal to y, 3 x not equal to y), "
                 + "the block a is entered if the relation is true, otherwise the block b");
         boolean[][] truths = {{true, false, false}, {true, true, false}, {false, true, false}, {true, false, true}};
         for (int relation = 0; relation < 4; relation++) {

@@ -8,22 +8,22 @@ public final class BranchesTest {
     private static final int UNEQUAL = 3;
 
     public static void main(String[] args) {
-        refinesBehindTheStatements();
-        lessKeeps();
-        notGreaterKeeps();
-        equalKeeps();
-        unequalKeeps();
-        asSmallAsTheyCanBe();
-        atTheLimits();
-        nothingIsKept();
-        otherVariablesAreKept();
-        sameVariable();
-        sameVariableOfOneInteger();
-        bothEdgesToOneBlock();
-        edgeOfAJump();
-        edgesOfNone();
-        everyRefinementOfSmallRanges();
-        Check.end("BranchesTest");
+        Check.all("BranchesTest",
+                BranchesTest::refinesBehindTheStatements,
+                BranchesTest::lessKeeps,
+                BranchesTest::notGreaterKeeps,
+                BranchesTest::equalKeeps,
+                BranchesTest::unequalKeeps,
+                BranchesTest::asSmallAsTheyCanBe,
+                BranchesTest::atTheLimits,
+                BranchesTest::nothingIsKept,
+                BranchesTest::otherVariablesAreKept,
+                BranchesTest::sameVariable,
+                BranchesTest::sameVariableOfOneInteger,
+                BranchesTest::bothEdgesToOneBlock,
+                BranchesTest::edgeOfAJump,
+                BranchesTest::edgesOfNone,
+                BranchesTest::everyRefinementOfSmallRanges);
     }
 
     private static int[] range(int low, int high) {
@@ -295,6 +295,9 @@ public final class BranchesTest {
         p.analyze();
         Check.yes("the edge of a JUMP that is not reachable any more", p.isDead(1, 0));
         Check.no("edge 0 of a BRANCH that is reachable", p.isDead(2, 0));
+        RangePropagator q = Programs.reachedByWidening(6, 5);
+        Check.yes("the edge of a JUMP whose entry state a narrowing made \"none\"", q.isDead(4, 0));
+        Check.no("behind it", q.isReachable(5));
     }
 
     private static boolean holds(int relation, int x, int y) {

@@ -8,14 +8,14 @@ public final class CallsTest {
 
     public static void main(String[] args) {
         Check.sentence("What it is", "An object is used for at most 512 calls after it has been made");
-        building();
-        settings();
-        asking();
-        analyzing();
-        executing();
-        refusing();
-        refillingABlock();
-        Check.end("CallsTest");
+        Check.all("CallsTest",
+                CallsTest::building,
+                CallsTest::settings,
+                CallsTest::asking,
+                CallsTest::analyzing,
+                CallsTest::executing,
+                CallsTest::refusing,
+                CallsTest::refillingABlock);
     }
 
     /** Calls until the object has been called 512 times; each time the same answer is due. */

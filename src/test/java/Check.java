@@ -24,6 +24,7 @@ final class Check {
     private static int wrong = 0;
     private static String sentence = "";
     private static String told = "";
+    private static int toldOfIt = 0;
 
     private Check() {
     }
@@ -91,15 +92,30 @@ final class Check {
         return null;
     }
 
+    /** Tells the first few of each sentence. */
     static void tell(String text) {
         wrong++;
-        if (wrong <= 40) {
-            if (!sentence.equals(told)) {
-                System.out.println("  " + sentence);
-                told = sentence;
-            }
+        if (!sentence.equals(told)) {
+            System.out.println("  " + sentence);
+            told = sentence;
+            toldOfIt = 0;
+        }
+        toldOfIt++;
+        if (toldOfIt <= 8) {
             System.out.println("    " + text);
         }
+    }
+
+    /** Makes all of these tests; one that throws does not keep the others from being made. */
+    static void all(String name, Call... tests) {
+        for (Call test : tests) {
+            try {
+                test.make();
+            } catch (RuntimeException e) {
+                tell("the test was ended by " + e + " at " + e.getStackTrace()[0]);
+            }
+        }
+        end(name);
     }
 
     static void end(String test) {

@@ -3,16 +3,16 @@ import java.math.BigInteger;
 /** Promise 25, number by number: the checksum. */
 public final class DigestTest {
     public static void main(String[] args) {
-        newObject();
-        wrapsAround();
-        statementsAndEdges();
-        sixteenFullBlocks();
-        settings();
-        analysis();
-        analysisIsGone();
-        execution();
-        digestChangesNothing();
-        Check.end("DigestTest");
+        Check.all("DigestTest",
+                DigestTest::newObject,
+                DigestTest::wrapsAround,
+                DigestTest::statementsAndEdges,
+                DigestTest::sixteenFullBlocks,
+                DigestTest::settings,
+                DigestTest::analysis,
+                DigestTest::analysisIsGone,
+                DigestTest::execution,
+                DigestTest::digestChangesNothing);
     }
 
     /** Computed without a wrap-around; the last 64 bits are taken at the end alone. */

@@ -1,14 +1,14 @@
 /** Promises 6 and 7, sentence by sentence: how blocks end. */
 public final class EndsTest {
     public static void main(String[] args) {
-        jumpLets();
-        jumpReturnsTheEdgesBefore();
-        jumpWrongBlock();
-        branchLets();
-        branchReturnsTheEdgesBefore();
-        branchWrongIndex();
-        branchWrongRelation();
-        Check.end("EndsTest");
+        Check.all("EndsTest",
+                EndsTest::jumpLets,
+                EndsTest::jumpReturnsTheEdgesBefore,
+                EndsTest::jumpWrongBlock,
+                EndsTest::branchLets,
+                EndsTest::branchReturnsTheEdgesBefore,
+                EndsTest::branchWrongIndex,
+                EndsTest::branchWrongRelation);
     }
 
     private static void jumpLets() {

@@ -9,14 +9,14 @@ public final class ExceptionsTest {
     }
 
     public static void main(String[] args) {
-        throwingChangesNothing();
-        theFirstOfIndexAndArgument();
-        theFirstOfThreeInInput();
-        theFirstOfThreeInCompute();
-        theFirstOfArgumentAndState();
-        theFirstOfStateAndIndex();
-        theFirstOfIndexAndElement();
-        Check.end("ExceptionsTest");
+        Check.all("ExceptionsTest",
+                ExceptionsTest::throwingChangesNothing,
+                ExceptionsTest::theFirstOfIndexAndArgument,
+                ExceptionsTest::theFirstOfThreeInInput,
+                ExceptionsTest::theFirstOfThreeInCompute,
+                ExceptionsTest::theFirstOfArgumentAndState,
+                ExceptionsTest::theFirstOfStateAndIndex,
+                ExceptionsTest::theFirstOfIndexAndElement);
     }
 
     /** Block 0 has 8 statements, block 3 is not reachable; there are 8 thresholds and an execution of six steps. */

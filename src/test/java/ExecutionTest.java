@@ -3,26 +3,26 @@ import java.math.BigInteger;
 /** Promises 21 to 24, sentence by sentence: programs are executed. */
 public final class ExecutionTest {
     public static void main(String[] args) {
-        runStartsWithTheSeed();
-        runTakesTheRest();
-        runTakesTheRestOfANegative();
-        runTurnsWrapAround();
-        runChoosesTheVariablesInOrder();
-        runChoosesAtEachInput();
-        runEndsWithAReturn();
-        runEndsWithTheLastStep();
-        runReturnsTheSteps();
-        runWrongSteps();
-        enteredBlockReturns();
-        enteredBlockWrongStep();
-        enteredWithReturns();
-        enteredWithWrongStep();
-        enteredWithWrongVariable();
-        resultReturns();
-        resultWithoutExecution();
-        resultWrongVariable();
-        theLatestExecution();
-        Check.end("ExecutionTest");
+        Check.all("ExecutionTest",
+                ExecutionTest::runStartsWithTheSeed,
+                ExecutionTest::runTakesTheRest,
+                ExecutionTest::runTakesTheRestOfANegative,
+                ExecutionTest::runTurnsWrapAround,
+                ExecutionTest::runChoosesTheVariablesInOrder,
+                ExecutionTest::runChoosesAtEachInput,
+                ExecutionTest::runEndsWithAReturn,
+                ExecutionTest::runEndsWithTheLastStep,
+                ExecutionTest::runReturnsTheSteps,
+                ExecutionTest::runWrongSteps,
+                ExecutionTest::enteredBlockReturns,
+                ExecutionTest::enteredBlockWrongStep,
+                ExecutionTest::enteredWithReturns,
+                ExecutionTest::enteredWithWrongStep,
+                ExecutionTest::enteredWithWrongVariable,
+                ExecutionTest::resultReturns,
+                ExecutionTest::resultWithoutExecution,
+                ExecutionTest::resultWrongVariable,
+                ExecutionTest::theLatestExecution);
     }
 
     private static BigInteger big(long value) {
@@ -259,7 +259,8 @@ public final class ExecutionTest {
     private static void enteredWithWrongStep() {
         Check.sentence("Promise 23", "Throws `IndexOutOfBoundsException` if there is no such step or variable");
         RangePropagator p = endless();
-        Check.refusedFor("no execution, step", p, Check.INDEX, s -> p.enteredWith(s, 0), 0, -1, 1, 299, Check.MIN, Check.MAX);
+        Check.refusedFor("no execution, step", p, Check.INDEX, s -> p.enteredWith(s, 0),
+                0, -1, 1, 299, Check.MIN, Check.MAX);
         for (int steps : new int[] {300, 299, 2, 1}) {
             p.run(0, steps);
             Check.equal("the first of " + steps, p.enteredWith(0, 1), 1);

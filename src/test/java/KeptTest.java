@@ -1,11 +1,11 @@
 /** The section "Analysis" of the description, its last sentence: how long the analysis is kept. */
 public final class KeptTest {
     public static void main(String[] args) {
-        endedByAChange();
-        endedThoughNothingChanges();
-        keptByAnException();
-        keptByQuestions();
-        Check.end("KeptTest");
+        Check.all("KeptTest",
+                KeptTest::endedByAChange,
+                KeptTest::endedThoughNothingChanges,
+                KeptTest::keptByAnException,
+                KeptTest::keptByQuestions);
     }
 
     private interface CallOn {

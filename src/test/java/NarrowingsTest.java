@@ -4,17 +4,17 @@ public final class NarrowingsTest {
     private static final int GREATEST = Check.GREATEST;
 
     public static void main(String[] args) {
-        asManyAsAreSet();
-        noneOfThem();
-        ascendingOrder();
-        greaterLowAndSmallerHigh();
-        entryStateBecomesNone();
-        noneGoesOn();
-        noneStaysNone();
-        aLoopKeepsItself();
-        edgesAreMadeAnew();
-        visitsAndRoundsStay();
-        Check.end("NarrowingsTest");
+        Check.all("NarrowingsTest",
+                NarrowingsTest::asManyAsAreSet,
+                NarrowingsTest::noneOfThem,
+                NarrowingsTest::ascendingOrder,
+                NarrowingsTest::greaterLowAndSmallerHigh,
+                NarrowingsTest::entryStateBecomesNone,
+                NarrowingsTest::noneGoesOn,
+                NarrowingsTest::noneStaysNone,
+                NarrowingsTest::aLoopKeepsItself,
+                NarrowingsTest::edgesAreMadeAnew,
+                NarrowingsTest::visitsAndRoundsStay);
     }
 
     /** A loop to 10 with its head 6 and its body 7; behind it come the blocks 5, 4, 3, 2 and 1, against the order. */
@@ -108,32 +108,13 @@ public final class NarrowingsTest {
         Check.entry("block 0", p, 0, 4, -10, -10);
     }
 
-    /** Only what is widened reaches block 4; each of the blocks 4 to the last leads to the next. */
-    private static RangePropagator reachedByWidening(int blocks, int narrowings) {
-        RangePropagator p = Programs.ofBlocks(blocks);
-        p.input(0, 1, 10, 10);
-        p.input(0, 2, 1, 1);
-        p.input(0, 3, 50, 50);
-        p.jump(0, 1);
-        p.branch(1, 0, 0, 1, 2, 3);
-        p.compute(2, 1, 0, 0, 2);
-        p.jump(2, 1);
-        p.branch(3, 3, 0, 0, 4, 0);
-        for (int block = 4; block + 1 < blocks; block++) {
-            p.jump(block, block + 1);
-        }
-        p.setEffort(0, narrowings);
-        p.analyze();
-        return p;
-    }
-
     private static void entryStateBecomesNone() {
         Check.sentence("Analysis", "if E is not \"none\", the entry state becomes \"none\" if N is");
-        RangePropagator p = reachedByWidening(5, 0);
+        RangePropagator p = Programs.reachedByWidening(5, 0);
         Check.yes("reached without narrowings", p.isReachable(4));
         Check.no("the edge to it", p.isDead(3, 0));
         Check.equal("dead edges", p.deadEdges(), 0);
-        RangePropagator q = reachedByWidening(5, 5);
+        RangePropagator q = Programs.reachedByWidening(5, 5);
         Check.no("not reached with narrowings", q.isReachable(4));
         Check.yes("the edge to it", q.isDead(3, 0));
         Check.equal("dead edges", q.deadEdges(), 1);
@@ -145,9 +126,9 @@ public final class NarrowingsTest {
 
     private static void noneGoesOn() {
         Check.sentence("Analysis", "Then the states of the edges are made anew. (they become \"none\")");
-        RangePropagator p = reachedByWidening(16, 0);
+        RangePropagator p = Programs.reachedByWidening(16, 0);
         Check.yes("the last block without narrowings", p.isReachable(15));
-        RangePropagator q = reachedByWidening(16, 5);
+        RangePropagator q = Programs.reachedByWidening(16, 5);
         for (int block = 4; block < 16; block++) {
             Check.no("block " + block, q.isReachable(block));
         }
@@ -171,7 +152,7 @@ public final class NarrowingsTest {
 
     private static void aLoopKeepsItself() {
         Check.sentence("Analysis", "the entry state becomes \"none\" if N is (N is not, where the block leads to itself)");
-        RangePropagator p = reachedByWidening(5, 5);
+        RangePropagator p = Programs.reachedByWidening(5, 5);
         p.jump(4, 4);
         p.analyze();
         Check.yes("the edge to it is dead", p.isDead(3, 0));

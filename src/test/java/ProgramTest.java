@@ -1,16 +1,16 @@
 /** Promises 1, 2, 3 and 9, sentence by sentence: the blocks and the initial ranges. */
 public final class ProgramTest {
     public static void main(String[] args) {
-        newObject();
-        addBlockAdds();
-        addBlockReturnsTheNumber();
-        addBlockAtSixteen();
-        setInitialSets();
-        setInitialReturnsWhetherOther();
-        setInitialWrongVariable();
-        setInitialWrongRange();
-        blockCountReturnsTheNumber();
-        Check.end("ProgramTest");
+        Check.all("ProgramTest",
+                ProgramTest::newObject,
+                ProgramTest::addBlockAdds,
+                ProgramTest::addBlockReturnsTheNumber,
+                ProgramTest::addBlockAtSixteen,
+                ProgramTest::setInitialSets,
+                ProgramTest::setInitialReturnsWhetherOther,
+                ProgramTest::setInitialWrongVariable,
+                ProgramTest::setInitialWrongRange,
+                ProgramTest::blockCountReturnsTheNumber);
     }
 
     private static void newObject() {

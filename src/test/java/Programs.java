@@ -72,6 +72,42 @@ final class Programs {
         return p;
     }
 
+    /**
+     * Analyzed with delay 0: behind the loop of counting(10) only what is widened reaches block 4; each of the blocks
+     * from 4 on leads to the next one.
+     */
+    static RangePropagator reachedByWidening(int blocks, int narrowings) {
+        RangePropagator p = counting(10);
+        for (int block = 4; block < blocks; block++) {
+            p.addBlock();
+        }
+        p.input(0, 3, 50, 50);
+        p.branch(3, 3, 0, 0, 4, 0);
+        for (int block = 4; block + 1 < blocks; block++) {
+            p.jump(block, block + 1);
+        }
+        p.setEffort(0, narrowings);
+        p.analyze();
+        return p;
+    }
+
+    /**
+     * Analyzed with delay 0 and no narrowings: block 0 leads to itself, and its INPUT makes the range of v3 that is
+     * joined with -2 to 2 and widened.
+     */
+    static RangePropagator widened(int low, int high, int... thresholds) {
+        RangePropagator p = new RangePropagator();
+        p.setEffort(0, 0);
+        p.setInitial(3, -2, 2);
+        p.input(0, 3, low, high);
+        p.jump(0, 0);
+        for (int threshold : thresholds) {
+            p.addThreshold(threshold);
+        }
+        p.analyze();
+        return p;
+    }
+
     /** Analyzed: block 0 branches on v3 and v4 with these ranges to block 1 (edge 0) or block 2 (edge 1). */
     static RangePropagator branched(int relation, int[] x, int[] y) {
         RangePropagator p = ofBlocks(3);

@@ -4,25 +4,25 @@ public final class RoundsTest {
     private static final int GREATEST = Check.GREATEST;
 
     public static void main(String[] args) {
-        settingsAtFirst();
-        thresholdsThatAreThereAlways();
-        allIsNoneAtTheBeginning();
-        roundsUntilNothingChanges();
-        ascendingOrder();
-        edgesAsTheyAreNow();
-        initialRangesOfBlock0();
-        nothingHappensWithoutAnEdge();
-        firstEntryStateIsN();
-        joinBeforeTheDelay();
-        visitsReachTheDelay();
-        visitsAreThoseOfTheBlock();
-        lowsBecomeThresholds();
-        highsBecomeThresholds();
-        widenedToTheLimits();
-        otherEndsStay();
-        visitsCountChanges();
-        edgesAreMadeAnew();
-        Check.end("RoundsTest");
+        Check.all("RoundsTest",
+                RoundsTest::settingsAtFirst,
+                RoundsTest::thresholdsThatAreThereAlways,
+                RoundsTest::allIsNoneAtTheBeginning,
+                RoundsTest::roundsUntilNothingChanges,
+                RoundsTest::ascendingOrder,
+                RoundsTest::edgesAsTheyAreNow,
+                RoundsTest::initialRangesOfBlock0,
+                RoundsTest::nothingHappensWithoutAnEdge,
+                RoundsTest::firstEntryStateIsN,
+                RoundsTest::joinBeforeTheDelay,
+                RoundsTest::visitsReachTheDelay,
+                RoundsTest::visitsAreThoseOfTheBlock,
+                RoundsTest::lowsBecomeThresholds,
+                RoundsTest::highsBecomeThresholds,
+                RoundsTest::widenedToTheLimits,
+                RoundsTest::otherEndsStay,
+                RoundsTest::visitsCountChanges,
+                RoundsTest::edgesAreMadeAnew);
     }
 
     private static void settingsAtFirst() {
@@ -231,64 +231,52 @@ public final class RoundsTest {
         Check.entry("block 1", p, 1, 0, 0, GREATEST);
     }
 
-    /** Block 0 leads to itself; its INPUT makes the range that is joined with -2 to 2 and widened. */
-    private static RangePropagator widened(int low, int high, int... thresholds) {
-        RangePropagator p = new RangePropagator();
-        p.setEffort(0, 0);
-        p.setInitial(3, -2, 2);
-        p.input(0, 3, low, high);
-        p.jump(0, 0);
-        for (int threshold : thresholds) {
-            p.addThreshold(threshold);
-        }
-        p.analyze();
-        return p;
-    }
-
     private static void lowsBecomeThresholds() {
         Check.sentence("Analysis", "each low of the join that is less than that of E becomes the greatest threshold that is "
                 + "not greater than it");
-        Check.entry("one above a threshold", widened(-9, 2, -10), 0, 3, -10, 2);
-        Check.entry("a threshold", widened(-10, 2, -10), 0, 3, -10, 2);
-        Check.entry("one below a threshold", widened(-11, 2, -10), 0, 3, LEAST, 2);
-        Check.entry("one below a threshold, another below", widened(-11, 2, -10, -12), 0, 3, -12, 2);
-        Check.entry("the greatest of three", widened(-9, 2, -30, -10, -20), 0, 3, -10, 2);
-        Check.entry("thresholds above it do not count", widened(-9, 2, -8, -2, 0, 9), 0, 3, LEAST, 2);
-        Check.entry("one less than that of E", widened(-3, 2, -3), 0, 3, -3, 2);
-        Check.entry("that of E", widened(-2, 2, -5), 0, 3, -2, 2);
-        Check.entry("greater than that of E", widened(-1, 2, -5), 0, 3, -2, 2);
+        Check.entry("one above a threshold", Programs.widened(-9, 2, -10), 0, 3, -10, 2);
+        Check.entry("a threshold", Programs.widened(-10, 2, -10), 0, 3, -10, 2);
+        Check.entry("one below a threshold", Programs.widened(-11, 2, -10), 0, 3, LEAST, 2);
+        Check.entry("one below a threshold, another below", Programs.widened(-11, 2, -10, -12), 0, 3, -12, 2);
+        Check.entry("the greatest of three", Programs.widened(-9, 2, -30, -10, -20), 0, 3, -10, 2);
+        Check.entry("thresholds above it do not count", Programs.widened(-9, 2, -8, -2, 0, 9), 0, 3, LEAST, 2);
+        Check.entry("one less than that of E", Programs.widened(-3, 2, -3), 0, 3, -3, 2);
+        Check.entry("that of E", Programs.widened(-2, 2, -5), 0, 3, -2, 2);
+        Check.entry("greater than that of E", Programs.widened(-1, 2, -5), 0, 3, -2, 2);
     }
 
     private static void highsBecomeThresholds() {
         Check.sentence("Analysis", "and each high that is greater becomes the smallest threshold that is not less than it");
-        Check.entry("one below a threshold", widened(-2, 9, 10), 0, 3, -2, 10);
-        Check.entry("a threshold", widened(-2, 10, 10), 0, 3, -2, 10);
-        Check.entry("one above a threshold", widened(-2, 11, 10), 0, 3, -2, GREATEST);
-        Check.entry("one above a threshold, another above", widened(-2, 11, 10, 12), 0, 3, -2, 12);
-        Check.entry("the smallest of three", widened(-2, 9, 30, 10, 20), 0, 3, -2, 10);
-        Check.entry("thresholds below it do not count", widened(-2, 9, 8, 2, 0, -9), 0, 3, -2, GREATEST);
-        Check.entry("one greater than that of E", widened(-2, 3, 3), 0, 3, -2, 3);
-        Check.entry("that of E", widened(-2, 2, 5), 0, 3, -2, 2);
-        Check.entry("less than that of E", widened(-2, 1, 5), 0, 3, -2, 2);
+        Check.entry("one below a threshold", Programs.widened(-2, 9, 10), 0, 3, -2, 10);
+        Check.entry("a threshold", Programs.widened(-2, 10, 10), 0, 3, -2, 10);
+        Check.entry("one above a threshold", Programs.widened(-2, 11, 10), 0, 3, -2, GREATEST);
+        Check.entry("one above a threshold, another above", Programs.widened(-2, 11, 10, 12), 0, 3, -2, 12);
+        Check.entry("the smallest of three", Programs.widened(-2, 9, 30, 10, 20), 0, 3, -2, 10);
+        Check.entry("thresholds below it do not count", Programs.widened(-2, 9, 8, 2, 0, -9), 0, 3, -2, GREATEST);
+        Check.entry("one greater than that of E", Programs.widened(-2, 3, 3), 0, 3, -2, 3);
+        Check.entry("that of E", Programs.widened(-2, 2, 5), 0, 3, -2, 2);
+        Check.entry("less than that of E", Programs.widened(-2, 1, 5), 0, 3, -2, 2);
     }
 
     private static void widenedToTheLimits() {
         Check.sentence("Analysis", "-1000000000 and 1000000000 are thresholds always");
-        Check.entry("the limits", widened(LEAST, GREATEST), 0, 3, LEAST, GREATEST);
-        Check.entry("one step inside of them", widened(LEAST + 1, GREATEST - 1), 0, 3, LEAST, GREATEST);
+        Check.entry("the limits", Programs.widened(LEAST, GREATEST), 0, 3, LEAST, GREATEST);
+        Check.entry("one step inside of them", Programs.widened(LEAST + 1, GREATEST - 1), 0, 3, LEAST, GREATEST);
         int[] nearest = {LEAST + 1, GREATEST - 1};
-        Check.entry("the nearest thresholds", widened(LEAST + 1, GREATEST - 1, nearest), 0, 3, LEAST + 1, GREATEST - 1);
-        Check.entry("one step outside of these", widened(LEAST, GREATEST, nearest), 0, 3, LEAST, GREATEST);
-        Check.entry("one step inside of these", widened(LEAST + 2, GREATEST - 2, nearest), 0, 3, LEAST + 1, GREATEST - 1);
+        Check.entry("the nearest thresholds", Programs.widened(LEAST + 1, GREATEST - 1, nearest), 0, 3,
+                LEAST + 1, GREATEST - 1);
+        Check.entry("one step outside of these", Programs.widened(LEAST, GREATEST, nearest), 0, 3, LEAST, GREATEST);
+        Check.entry("one step inside of these", Programs.widened(LEAST + 2, GREATEST - 2, nearest), 0, 3,
+                LEAST + 1, GREATEST - 1);
     }
 
     private static void otherEndsStay() {
         Check.sentence("Analysis", "each low of the join that is less than that of E ... each high that is greater");
-        Check.entry("only the high rises", widened(0, 9, -5, 12), 0, 3, -2, 12);
-        Check.entry("only the low sinks", widened(-9, 0, -12, 5), 0, 3, -12, 2);
-        Check.entry("both", widened(-9, 9, -12, 12), 0, 3, -12, 12);
-        Check.entry("neither", widened(-1, 1, -12, 12), 0, 3, -2, 2);
-        RangePropagator p = widened(-9, 9, -12, 12);
+        Check.entry("only the high rises", Programs.widened(0, 9, -5, 12), 0, 3, -2, 12);
+        Check.entry("only the low sinks", Programs.widened(-9, 0, -12, 5), 0, 3, -12, 2);
+        Check.entry("both", Programs.widened(-9, 9, -12, 12), 0, 3, -12, 12);
+        Check.entry("neither", Programs.widened(-1, 1, -12, 12), 0, 3, -2, 2);
+        RangePropagator p = Programs.widened(-9, 9, -12, 12);
         for (int variable : new int[] {0, 1, 2, 4, 5}) {
             Check.entry("another variable", p, 0, variable, 0, 0);
         }
@@ -305,12 +293,12 @@ public final class RoundsTest {
     private static void visitsCountChanges() {
         Check.sentence("Analysis", "If the new entry state is not E, this is a change: it becomes the entry state, the "
                 + "visits increase by 1");
-        Check.equal("no change behind the first", widened(-1, 1).visits(0), 1);
-        Check.equal("no change behind the first", widened(-2, 2).visits(0), 1);
-        Check.equal("a change of a low", widened(-3, 2).visits(0), 2);
-        Check.equal("a change of a high", widened(-2, 3).visits(0), 2);
-        Check.equal("a change of both is one", widened(-3, 3).visits(0), 2);
-        Check.equal("rounds: the last one without a change", widened(-3, 3).analyze(), 3);
+        Check.equal("no change behind the first", Programs.widened(-1, 1).visits(0), 1);
+        Check.equal("no change behind the first", Programs.widened(-2, 2).visits(0), 1);
+        Check.equal("a change of a low", Programs.widened(-3, 2).visits(0), 2);
+        Check.equal("a change of a high", Programs.widened(-2, 3).visits(0), 2);
+        Check.equal("a change of both is one", Programs.widened(-3, 3).visits(0), 2);
+        Check.equal("rounds: the last one without a change", Programs.widened(-3, 3).analyze(), 3);
         // The last variable alone changes.
         RangePropagator p = new RangePropagator();
         p.input(0, 5, 0, 1);

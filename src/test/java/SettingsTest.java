@@ -1,15 +1,15 @@
 /** Promises 10 and 11, sentence by sentence: the effort and the thresholds. */
 public final class SettingsTest {
     public static void main(String[] args) {
-        setEffortSets();
-        setEffortReturnsWhetherOther();
-        setEffortWrongArguments();
-        addThresholdAdds();
-        addThresholdReturnsTheNumber();
-        addThresholdAddedAlready();
-        addThresholdWrongArgument();
-        addThresholdAtEight();
-        Check.end("SettingsTest");
+        Check.all("SettingsTest",
+                SettingsTest::setEffortSets,
+                SettingsTest::setEffortReturnsWhetherOther,
+                SettingsTest::setEffortWrongArguments,
+                SettingsTest::addThresholdAdds,
+                SettingsTest::addThresholdReturnsTheNumber,
+                SettingsTest::addThresholdAddedAlready,
+                SettingsTest::addThresholdWrongArgument,
+                SettingsTest::addThresholdAtEight);
     }
 
     private static void setEffortSets() {
@@ -64,30 +64,16 @@ public final class SettingsTest {
         Check.no("they are as before", p.setEffort(10, 5));
     }
 
-    /** Block 0 leads to itself; its INPUT makes the range of variable 0 that is joined with -2 to 2. */
-    private static RangePropagator joinedWith(int low, int high, int... thresholds) {
-        RangePropagator p = new RangePropagator();
-        p.setEffort(0, 0);
-        p.setInitial(0, -2, 2);
-        p.input(0, 0, low, high);
-        p.jump(0, 0);
-        for (int threshold : thresholds) {
-            p.addThreshold(threshold);
-        }
-        p.analyze();
-        return p;
-    }
-
     private static void addThresholdAdds() {
         Check.sentence("Promise 11", "Adds a threshold.");
-        Check.entry("none", joinedWith(-9, 9), 0, 0, Check.LEAST, Check.GREATEST);
-        Check.entry("one for the low", joinedWith(-9, 9, -9), 0, 0, -9, Check.GREATEST);
-        Check.entry("one for the high", joinedWith(-9, 9, 9), 0, 0, Check.LEAST, 9);
-        Check.entry("the order does not matter", joinedWith(-9, 9, 20, 10, 30, -20, -10, -30), 0, 0, -10, 10);
-        Check.entry("the order does not matter", joinedWith(-9, 9, -30, -20, -10, 10, 20, 30), 0, 0, -10, 10);
-        Check.entry("the eighth counts", joinedWith(-7, 7, 1, 2, 3, 4, 5, 6, -9, 8), 0, 0, -9, 8);
-        Check.entry("the least that can be added", joinedWith(-999999999, 0, -999999999), 0, 0, -999999999, 2);
-        Check.entry("the greatest that can be added", joinedWith(0, 999999999, 999999999), 0, 0, -2, 999999999);
+        Check.entry("none", Programs.widened(-9, 9), 0, 3, Check.LEAST, Check.GREATEST);
+        Check.entry("one for the low", Programs.widened(-9, 9, -9), 0, 3, -9, Check.GREATEST);
+        Check.entry("one for the high", Programs.widened(-9, 9, 9), 0, 3, Check.LEAST, 9);
+        Check.entry("the order does not matter", Programs.widened(-9, 9, 20, 10, 30, -20, -10, -30), 0, 3, -10, 10);
+        Check.entry("the order does not matter", Programs.widened(-9, 9, -30, -20, -10, 10, 20, 30), 0, 3, -10, 10);
+        Check.entry("the eighth counts", Programs.widened(-7, 7, 1, 2, 3, 4, 5, 6, -9, 8), 0, 3, -9, 8);
+        Check.entry("the least that can be added", Programs.widened(-999999999, 0, -999999999), 0, 3, -999999999, 2);
+        Check.entry("the greatest that can be added", Programs.widened(0, 999999999, 999999999), 0, 3, -2, 999999999);
         zeroIsNoThreshold();
     }
 

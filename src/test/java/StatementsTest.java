@@ -1,22 +1,22 @@
 /** Promises 4, 5 and 8, sentence by sentence: statements are appended and removed. */
 public final class StatementsTest {
     public static void main(String[] args) {
-        inputAppends();
-        inputOfOneIntegerIsASet();
-        inputReturnsTheNumber();
-        inputWrongIndex();
-        inputWrongRange();
-        inputAtEight();
-        computeAppends();
-        copyIgnoresZ();
-        computeReturnsTheNumber();
-        computeWrongIndex();
-        computeWrongKind();
-        computeAtEight();
-        clearEndsAndRemoves();
-        clearReturnsHowMany();
-        clearWrongBlock();
-        Check.end("StatementsTest");
+        Check.all("StatementsTest",
+                StatementsTest::inputAppends,
+                StatementsTest::inputOfOneIntegerIsASet,
+                StatementsTest::inputReturnsTheNumber,
+                StatementsTest::inputWrongIndex,
+                StatementsTest::inputWrongRange,
+                StatementsTest::inputAtEight,
+                StatementsTest::computeAppends,
+                StatementsTest::copyIgnoresZ,
+                StatementsTest::computeReturnsTheNumber,
+                StatementsTest::computeWrongIndex,
+                StatementsTest::computeWrongKind,
+                StatementsTest::computeAtEight,
+                StatementsTest::clearEndsAndRemoves,
+                StatementsTest::clearReturnsHowMany,
+                StatementsTest::clearWrongBlock);
     }
 
     private static void inputAppends() {

@@ -4,22 +4,22 @@ public final class StatesTest {
     private static final int GREATEST = Check.GREATEST;
 
     public static void main(String[] args) {
-        noneOrARangeForEachVariable();
-        joinHasSmallerLowAndGreaterHigh();
-        joinOfMoreThanTwo();
-        joinWithNone();
-        joinOfNones();
-        setAndInput();
-        copy();
-        add();
-        sub();
-        mul();
-        minAndMax();
-        tooSmallOrTooGreat();
-        onlyXHasAnotherRange();
-        sameVariables();
-        everyPairOfSmallRanges();
-        Check.end("StatesTest");
+        Check.all("StatesTest",
+                StatesTest::noneOrARangeForEachVariable,
+                StatesTest::joinHasSmallerLowAndGreaterHigh,
+                StatesTest::joinOfMoreThanTwo,
+                StatesTest::joinWithNone,
+                StatesTest::joinOfNones,
+                StatesTest::setAndInput,
+                StatesTest::copy,
+                StatesTest::add,
+                StatesTest::sub,
+                StatesTest::mul,
+                StatesTest::minAndMax,
+                StatesTest::tooSmallOrTooGreat,
+                StatesTest::onlyXHasAnotherRange,
+                StatesTest::sameVariables,
+                StatesTest::everyPairOfSmallRanges);
     }
 
     private static int[] range(int low, int high) {
@@ -184,7 +184,8 @@ public final class StatesTest {
     }
 
     private static void minAndMax() {
-        Check.sentence("States", "MIN from the smaller low to the smaller high, MAX from the greater low to the greater high");
+        Check.sentence("States",
+                "MIN from the smaller low to the smaller high, MAX from the greater low to the greater high");
         int[][] cases = {
             // y, z, MIN, MAX
             {-3, 5, 2, 7, -3, 5, 2, 7}, {0, 9, 4, 6, 0, 6, 4, 9}, {1, 2, 3, 4, 1, 2, 3, 4}, {1, 3, 3, 4, 1, 3, 3, 4},
