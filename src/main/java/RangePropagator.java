@@ -47,8 +47,8 @@ public final class RangePropagator {
     public RangePropagator() {
         program = new Program();
         settings = new Settings();
-        analysis = new Analysis(program, settings);
-        execution = new Execution(program);
+        analysis = new Analysis();
+        execution = new Execution();
         analysisStands = false;
     }
 
@@ -170,8 +170,8 @@ public final class RangePropagator {
 
     public int analyze() {
         analysis.forget();
-        int rounds = analysis.makeRounds();
-        analysis.makeNarrowings();
+        int rounds = analysis.makeRounds(program, settings);
+        analysis.makeNarrowings(program, settings.narrowings);
         analysisStands = true;
         return rounds;
     }
@@ -238,7 +238,7 @@ public final class RangePropagator {
         if (steps < 1 || steps > MOST_STEPS) {
             throw new IllegalArgumentException("steps is not 1 to 300");
         }
-        execution.execute(seed, steps);
+        execution.execute(program, seed, steps);
         return execution.stepCount;
     }
 
@@ -729,15 +729,11 @@ public final class RangePropagator {
 
     /** The rounds and the narrowings. */
     private static final class Analysis {
-        private final Program program;
-        private final Settings settings;
         final Flow[] flows = new Flow[MOST_BLOCKS];
         private final State incoming = new State();
         private final State joined = new State();
 
-        Analysis(Program analyzedProgram, Settings usedSettings) {
-            program = analyzedProgram;
-            settings = usedSettings;
+        Analysis() {
             for (int block = 0; block < MOST_BLOCKS; block++) {
                 flows[block] = new Flow();
             }
@@ -750,14 +746,14 @@ public final class RangePropagator {
         }
 
         /** Returns the number of rounds; the last one changes nothing. */
-        int makeRounds() {
+        int makeRounds(Program program, Settings settings) {
             boolean isChanged = true;
             int rounds = 0;
             while (isChanged && rounds < MOST_ROUNDS) {
                 rounds++;
                 isChanged = false;
                 for (int block = 0; block < program.count; block++) {
-                    if (lookAt(block)) {
+                    if (lookAt(program, settings, block)) {
                         isChanged = true;
                     }
                 }
@@ -765,17 +761,17 @@ public final class RangePropagator {
             return rounds;
         }
 
-        void makeNarrowings() {
-            for (int narrowing = 0; narrowing < settings.narrowings; narrowing++) {
+        void makeNarrowings(Program program, int count) {
+            for (int narrowing = 0; narrowing < count; narrowing++) {
                 for (int block = 0; block < program.count; block++) {
-                    narrow(block);
+                    narrow(program, block);
                 }
             }
         }
 
         /** Tells whether the entry state of the block has changed. */
-        private boolean lookAt(int block) {
-            gatherIncoming(block);
+        private boolean lookAt(Program program, Settings settings, int block) {
+            gatherIncoming(program, block);
             if (incoming.isNone) {
                 return false;
             }
@@ -794,18 +790,18 @@ public final class RangePropagator {
             return true;
         }
 
-        private void narrow(int block) {
+        private void narrow(Program program, int block) {
             Flow flow = flows[block];
             if (flow.entryState.isNone) {
                 return;
             }
-            gatherIncoming(block);
+            gatherIncoming(program, block);
             flow.entryState.narrowTo(incoming);
             flow.makeAnew(program.blocks[block]);
         }
 
         /** Joins what leads to a block, as it is now. */
-        private void gatherIncoming(int target) {
+        private void gatherIncoming(Program program, int target) {
             incoming.isNone = true;
             if (target == 0) {
                 incoming.join(program.initial);
@@ -823,21 +819,17 @@ public final class RangePropagator {
 
     /** The latest execution. */
     private static final class Execution {
-        private final Program program;
         final int[] values = new int[VARIABLES];
         final int[] stepBlocks = new int[MOST_STEPS];
         final int[] stepValues = new int[MOST_STEPS * VARIABLES];
         int stepCount = 0;
         private long r = 0;
 
-        Execution(Program executedProgram) {
-            program = executedProgram;
-        }
-
-        void execute(long seed, int steps) {
+        void execute(Program program, long seed, int steps) {
             r = seed;
+            State initial = program.initial;
             for (int variable = 0; variable < VARIABLES; variable++) {
-                values[variable] = choose(program.initial.low[variable], program.initial.high[variable]);
+                values[variable] = choose(initial.low[variable], initial.high[variable]);
             }
             stepCount = 0;
             int at = 0;
